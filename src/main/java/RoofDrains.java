@@ -296,7 +296,16 @@ public final class RoofDrains {
 
     public long digest() {
         long hash = hashOfRoof(hashOfCounts(3067));
-        return hashOfText(hashOfWouldBe(hash));
+        for (int what = 0; what <= 2; what++) {
+            hash = hashWith(hash, ifRained(20, what));
+        }
+        hash = hashWith(hash, spillsFirst(0));
+        hash = hashWith(hash, spillsFirst(1));
+        hash = hashWith(hash, bestClean());
+        hash = hashWith(hash, mostRain(10));
+        hash = hashWith(hash, dryIn());
+        hash = hashWith(hash, bitsOfShare(drainedShare()));
+        return hashOfText(hash);
     }
 
     // ---- what would be, tried out on the thought roof
@@ -351,19 +360,6 @@ public final class RoofDrains {
         return hash;
     }
 
-    private long hashOfWouldBe(long start) {
-        long hash = start;
-        for (int what = 0; what <= 2; what++) {
-            hash = hashWith(hash, ifRained(20, what));
-        }
-        hash = hashWith(hash, spillsFirst(0));
-        hash = hashWith(hash, spillsFirst(1));
-        hash = hashWith(hash, bestClean());
-        hash = hashWith(hash, mostRain(10));
-        hash = hashWith(hash, dryIn());
-        return hashWith(hash, bitsOfShare(drainedShare()));
-    }
-
     private long hashOfText(long start) {
         long hash = hashWith(start, text.length());
         for (int index = 0; index < text.length(); index++) {
@@ -378,13 +374,13 @@ public final class RoofDrains {
             return 0L;
         }
         double scaled = share;
-        long exponent = 1023L;
-        while (scaled < 1.0 && exponent > 0L) {
+        long doublings = 0L;
+        while (scaled < 1.0 && doublings < 1022L) {
             scaled = scaled * 2.0;
-            exponent--;
+            doublings++;
         }
         double fraction = (scaled - 1.0) * (double) (1L << 52);
-        return (exponent << 52) + (long) fraction;
+        return ((1023L - doublings) << 52) + (long) fraction;
     }
 
     // ---- ranges
@@ -394,15 +390,15 @@ public final class RoofDrains {
     }
 
     private static boolean isPlane(int plane) {
-        return isWithin(plane, 0, PLANES - 1);
+        return plane >= 0 && plane < PLANES;
     }
 
     private static boolean isGutter(int gutter) {
-        return isWithin(gutter, 0, GUTTERS - 1);
+        return gutter >= 0 && gutter < GUTTERS;
     }
 
     private static boolean isSetting(int setting) {
-        return isWithin(setting, 0, SETTINGS - 1);
+        return setting >= 0 && setting < SETTINGS;
     }
 
     /** All that undo restores: planes, gutters, settings, and what is counted so far. */
@@ -554,12 +550,9 @@ public final class RoofDrains {
                 flow = 1;
             }
             onPlane[plane] -= flow;
-            pourInto(leadsTo[plane], flow);
-        }
-
-        private void pourInto(int gutter, int litres) {
+            int gutter = leadsTo[plane];
             if (isGutter(gutter)) {
-                inGutter[gutter] += litres;
+                inGutter[gutter] += flow;
             }
         }
 
@@ -585,10 +578,11 @@ public final class RoofDrains {
                 return;
             }
             inGutter[gutter] -= tooMuch;
-            if (valleyTo[gutter] == NONE) {
-                spilt[gutter] += tooMuch;
+            int to = valleyTo[gutter];
+            if (isGutter(to)) {
+                inGutter[to] += tooMuch;
             } else {
-                pourInto(valleyTo[gutter], tooMuch);
+                spilt[gutter] += tooMuch;
             }
         }
 
@@ -865,7 +859,6 @@ public final class RoofDrains {
                 int code = codes[index];
                 if (code == ';') {
                     playPart(roof, kind, rain, number);
-                    kind = '*';
                     number = 0;
                 } else if (isWithin(code, '0', '9')) {
                     number = number * 10 + code - '0';

@@ -83,6 +83,13 @@ public final class WouldBeTest {
         x.clean(0);
         x.clean(1);
         checks.due("bestClean(), the lowest with leaves", x::bestClean, 2);
+        x.set(1, 1);
+        x.clean(5);
+        x.weeks(1);
+        for (int gutter = 0; gutter < 5; gutter++) {
+            x.clean(gutter);
+        }
+        checks.due("bestClean(), 1 hundredth of leaves", x::bestClean, 5);
         RoofDrains y = Checks.onePlane(100, 3);
         y.weeks(10);
         y.set(2, 99);
@@ -183,6 +190,11 @@ public final class WouldBeTest {
         checks.due("digest(), new", x::digest, digestByLooks(x, ""));
         x.rain(33, 7);
         checks.due("digest(), wet", x::digest, digestByLooks(x, ""));
+        RoofDrains small = Checks.onePlane(10, 0);
+        for (int size = 0; size < 6; size++) {
+            small.gutter(0, 60 + size, 0);
+            checks.due("digest(), mostRain of 9 to 11 differ", small::digest, digestByLooks(small, ""));
+        }
         Checks.type(x, "w;~");
         x.weeks(5);
         x.valley(0, 3);
