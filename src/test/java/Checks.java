@@ -43,6 +43,21 @@ final class Checks {
         }
     }
 
+    static RoofDrains typed(String text) {
+        RoofDrains x = new RoofDrains();
+        type(x, text);
+        return x;
+    }
+
+    /** Gives all gutters of a clean roof so many hundredths of leaves. */
+    static void gatherLeaves(RoofDrains x, int hundredths) {
+        int ofFirstWeek = Math.min(50, hundredths);
+        x.set(1, ofFirstWeek);
+        x.weeks(1);
+        x.set(1, hundredths - ofFirstWeek);
+        x.weeks(1);
+    }
+
     /** A roof on which only plane 0 gets rain, and sends all of it into a gutter at once. */
     static RoofDrains onePlane(int area, int gutter) {
         RoofDrains x = new RoofDrains();

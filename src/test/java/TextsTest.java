@@ -47,17 +47,11 @@ public final class TextsTest {
         checks.due("count(8)", () -> x.count(8), 0);
     }
 
-    private static RoofDrains typed(String text) {
-        RoofDrains x = new RoofDrains();
-        Checks.type(x, text);
-        return x;
-    }
-
     private static void promise11WholeTexts() {
         String[] whole = {"w", "c0", "c5", "0*1", "9*9", "10*10", "99*60", "1*59", "5*6", "w;w", "c3;2*7;w",
             "0*60;0*7;0*50;c1;w"};
         for (String text : whole) {
-            RoofDrains x = typed(text);
+            RoofDrains x = Checks.typed(text);
             checks.due("firstError() of " + text, x::firstError, text.length());
             checks.due("play() of " + text, () -> x.play() >= 0, true);
             checks.due("clearBuffer() behind play()", x::clearBuffer, 0);
@@ -67,7 +61,7 @@ public final class TextsTest {
     private static void promise11UnfinishedTexts() {
         String[] unfinished = {"", "0", "9", "10", "5*", "99*", "c", "w;", "c0;", "5*6;", "5*60;", "w;c", "w;1", "w;1*"};
         for (String text : unfinished) {
-            RoofDrains x = typed(text);
+            RoofDrains x = Checks.typed(text);
             checks.due("firstError() of " + text, x::firstError, text.length());
             checks.refused("play() of " + text, x, ARGUMENT, x::play);
             checks.due("clearBuffer()", x::clearBuffer, text.length());
@@ -81,14 +75,14 @@ public final class TextsTest {
             "5*1!*", "c!6", "c!9", "c!;", "c!c", "c0!0", "c0!w", "w!w", "w!0", "w;!;", "w;5*!0;xx", "w!x;;"};
         for (String marked : wrong) {
             String text = marked.replace("!", "");
-            RoofDrains x = typed(text);
+            RoofDrains x = Checks.typed(text);
             checks.due("firstError() of " + text, x::firstError, marked.indexOf('!'));
             checks.refused("play() of " + text, x, ARGUMENT, x::play);
         }
     }
 
     private static void promise12Play() {
-        RoofDrains x = typed("99*2;w;w;c3;0*1;w");
+        RoofDrains x = Checks.typed("99*2;w;w;c3;0*1;w");
         RoofDrains y = new RoofDrains();
         int spilt = y.rain(99, 2);
         y.weeks(2);
